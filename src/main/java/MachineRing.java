@@ -17,6 +17,10 @@ public final class MachineRing {
     private static final int PLACES = 2;
     private static final int MACHINES = 6;
     private static final int MOST_RATE = 99;
+    private static final int MOST_LITRES = 500;
+    private static final int MOST_COINS = 9999;
+    private static final int MOST_DAYS = 60;
+    private static final int MOST_SEED = 9999;
     private static final int MOST_STANDING = 30;
     private static final int MOST_HOURS = 12;
     private static final int FARTHEST = 99;
@@ -28,6 +32,7 @@ public final class MachineRing {
     private static final int HISTORY_ROOM = 4;
 
     private final State now;
+    /** What bookAll() goes back to; the history can't serve for that, as it drops its oldest state at once. */
     private final State before;
     private final State snapshot;
     private final History history;
@@ -101,7 +106,7 @@ public final class MachineRing {
         if (filler == null || filled == null) {
             return UNKNOWN;
         }
-        if (outside(litres, 1, 500)) {
+        if (outside(litres, 1, MOST_LITRES)) {
             return BAD_VALUE;
         }
         float then = filled.fuel + (float) litres;
@@ -134,7 +139,7 @@ public final class MachineRing {
         if (one == null) {
             return UNKNOWN;
         }
-        if (outside(coins, 1, 9999)) {
+        if (outside(coins, 1, MOST_COINS)) {
             return BAD_VALUE;
         }
         history.push(now);
@@ -188,7 +193,7 @@ public final class MachineRing {
     }
 
     public int pass(int days) {
-        if (outside(days, 1, 60)) {
+        if (outside(days, 1, MOST_DAYS)) {
             return BAD_VALUE;
         }
         history.push(now);
@@ -218,7 +223,7 @@ public final class MachineRing {
     }
 
     public int setSeed(int seed) {
-        if (outside(seed, 0, 9999)) {
+        if (outside(seed, 0, MOST_SEED)) {
             return BAD_VALUE;
         }
         int previous = now.seed;

@@ -4,6 +4,7 @@ public final class BookingsTests {
 
     public static void main(String[] args) {
         book();
+        bookBehindPutOffOnes();
         bookThirty();
         bookAll();
         bookAllOrNone();
@@ -46,6 +47,17 @@ public final class BookingsTests {
         CHECKS.refused("book(0, 0, 1, 0)", Rings.BAD_VALUE, r -> r.book(0, 0, 1, 0));
         CHECKS.refused("book(0, 2, 3, 13)", Rings.BAD_VALUE, r -> r.book(0, 2, 3, 13));
         CHECKS.refused("book(0, 2, 3, 1)", Rings.NOT_POSSIBLE, r -> r.book(0, 2, 3, 1));
+    }
+
+    private static void bookBehindPutOffOnes() {
+        CHECKS.begin("promise 8, in the place of a booking that was put off");
+        MachineRing ring = Rings.fuelled();
+        ring.book(0, 1, 2, 1);
+        ring.pass(2);
+        CHECKS.due("booking(0, 4)", ring.booking(0, 4), 1);
+        ring.pass(1);
+        CHECKS.due("book()", ring.book(2, 0, 9, 7), 1);
+        CHECKS.dueRow("booking 1", what -> ring.booking(1, what), 2, 0, 12, 7, 0);
     }
 
     private static void bookThirty() {

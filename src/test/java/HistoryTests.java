@@ -8,6 +8,7 @@ public final class HistoryTests {
         undoLeavesTheSnapshot();
         keep();
         restore();
+        restoreOfOtherMachines();
         CHECKS.end();
     }
 
@@ -113,5 +114,25 @@ public final class HistoryTests {
         CHECKS.due("undo()", ring.undo(), 2);
         CHECKS.due("machine(0, 7)", ring.machine(0, 7), 1);
         CHECKS.due("count(0)", ring.count(0), 4);
+    }
+
+    private static void restoreOfOtherMachines() {
+        CHECKS.begin("promise 18, other machines under the same numbers");
+        MachineRing ring = new MachineRing();
+        ring.buy(0, 0, 1);
+        ring.buy(0, 0, 2);
+        ring.fill(0, 1, 3);
+        ring.keep();
+        ring.undo();
+        ring.undo();
+        CHECKS.due("buy(1, 1, 5)", ring.buy(1, 1, 5), 1);
+        CHECKS.due("buy(2, 2, 6)", ring.buy(2, 2, 6), 2);
+        ring.restore();
+        CHECKS.dueRow("machine 1", what -> ring.machine(1, what),
+                0, 2, 0, 0, 0, 1, Float.floatToIntBits(3.0f), 0);
+        CHECKS.due("machine(2, 0)", ring.machine(2, 0), Rings.UNKNOWN);
+        ring.undo();
+        CHECKS.dueRow("machine 1", what -> ring.machine(1, what), 1, 5, 0, 0, 0, 0, 0, 0);
+        CHECKS.dueRow("machine 2", what -> ring.machine(2, what), 2, 6, 0, 0, 0, 0, 0, 0);
     }
 }

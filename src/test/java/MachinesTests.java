@@ -6,7 +6,7 @@ public final class MachinesTests {
         newObject();
         constants();
         buy();
-        buyBehindUndo();
+        buyBehindRestore();
         license();
         setRate();
         fill();
@@ -76,18 +76,21 @@ public final class MachinesTests {
         CHECKS.refused("buy(2, 1, 1)", Rings.NOT_POSSIBLE, r -> r.buy(2, 1, 1));
     }
 
-    private static void buyBehindUndo() {
-        CHECKS.begin("promise 2, in the place of an undone machine");
+    private static void buyBehindRestore() {
+        CHECKS.begin("promise 2, in the place of a machine that is gone by restore()");
         MachineRing ring = new MachineRing();
+        ring.keep();
         ring.set(0, 10);
         ring.buy(0, 0, 9);
         ring.fill(0, 0, 500);
         ring.book(1, 0, 1, 12);
         ring.pass(1);
-        CHECKS.due("machine(0, 2)", ring.machine(0, 2), 1);
-        for (int n = 0; n < 4; n++) {
-            ring.undo();
-        }
+        ring.mend(0);
+        ring.book(1, 0, 1, 11);
+        ring.pass(1);
+        CHECKS.dueRow("machine 0", what -> ring.machine(0, what),
+                0, 9, 1, 11, 23, 0, Float.floatToIntBits(304.5f), 1);
+        ring.restore();
         CHECKS.due("count(2)", ring.count(2), 0);
         CHECKS.due("machine(0, 0)", ring.machine(0, 0), Rings.UNKNOWN);
         CHECKS.due("buy(2, 2, 8)", ring.buy(2, 2, 8), 0);

@@ -33,6 +33,7 @@ public final class TellingTests {
         CHECKS.dueRow("farmer 0", what -> ring.farmer(0, what), -500, 1, 10, 100, 0, 200, 300, Rings.BAD_VALUE);
         CHECKS.dueRow("farmer 1", what -> ring.farmer(1, what), -224, 6, 4, 200, 1, 224, 0, Rings.BAD_VALUE);
         CHECKS.dueRow("farmer 5", what -> ring.farmer(5, what), 0, 1, 0, 0, 0, 0, 0, Rings.BAD_VALUE);
+        CHECKS.dueRow("bookings that stand", farmer -> ring.farmer(farmer, 4), 0, 1, 0, 1, 1, 0);
         ring.book(1, 3, 9, 1);
         CHECKS.due("farmer(1, 4)", ring.farmer(1, 4), 2);
         CHECKS.refused("farmer(0, -1)", Rings.BAD_VALUE, r -> r.farmer(0, -1));
@@ -156,7 +157,22 @@ public final class TellingTests {
         CHECKS.dueRow("wet from day 60 on", ring::wet, 1, 0, 0, 0, 0, 1, 0, 1);
         ring.setSeed(9999);
         CHECKS.dueRow("wet with the seed 9999", ring::wet, 0, 1, 0, 0, 0, 0, 1, 0, 1);
+        edgesOfTheFormula();
         CHECKS.refused("wet(100)", Rings.BAD_VALUE, r -> r.wet(100));
+    }
+
+    /** Seeds by which the remainder by 10000 is 7935, 7936 (a multiple of 64), 7951 and 7952 on day 0. */
+    private static void edgesOfTheFormula() {
+        wetToday(6832, 0);
+        wetToday(4813, 1);
+        wetToday(4528, 1);
+        wetToday(2509, 0);
+    }
+
+    private static void wetToday(int seed, int want) {
+        MachineRing ring = new MachineRing();
+        ring.setSeed(seed);
+        CHECKS.due("wet(0) with the seed " + seed, ring.wet(0), want);
     }
 
     private static void most() {
@@ -166,6 +182,10 @@ public final class TellingTests {
         CHECKS.due("most(-1)", ring.most(-1), Rings.UNKNOWN);
         ring.mend(0);
         CHECKS.due("most(0), mended", ring.most(0), Rings.NONE);
+        MachineRing one = Rings.fuelled();
+        one.book(4, 0, 1, 1);
+        one.pass(1);
+        CHECKS.due("an hour is enough", one.most(0), 4);
         MachineRing even = Rings.fuelled();
         Rings.bookText(even, "5m0+1h4,4m0+1h3,3m0+1h3");
         even.pass(1);

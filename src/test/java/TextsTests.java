@@ -48,6 +48,9 @@ public final class TextsTests {
         fault("0m0+01h1", 4);
         fault("0m0+:h1", 4);
         fault("0m0+1", 5);
+        fault("0m0+1:h1", 5);
+        fault("0m0+1/h1", 5);
+        fault("0m0+1h1/", 7);
         fault("0m0+1,", 5);
         fault("0m0+99", 6);
         fault("0m0+100h1", 6);
