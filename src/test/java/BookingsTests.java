@@ -97,9 +97,7 @@ public final class BookingsTests {
         CHECKS.due("of seven",
                 Rings.bookText(ring, "1m1+1h1,1m1+2h1,1m1+3h1,1m1+4h1,1m1+5h1,1m1+6h1,1m1+7h1"), 7);
         CHECKS.dueRow("booking 9", what -> ring.booking(9, what), 1, 1, 7, 1, 0);
-        MachineRing busy = Rings.busy();
-        Rings.write(busy, "0m3+1h1,2m2+99h12");
-        CHECKS.isAct(busy, "bookAll()", 2, r -> r.bookAll());
+        CHECKS.isAct(() -> Rings.busy("0m3+1h1,2m2+99h12"), "bookAll()", 2, r -> r.bookAll());
         CHECKS.isAct("bookAll() of one", 1, r -> r.bookAll());
     }
 
@@ -130,9 +128,7 @@ public final class BookingsTests {
     }
 
     private static void refusedText(String text, int want) {
-        MachineRing ring = Rings.busy();
-        Rings.write(ring, text);
-        CHECKS.refused(ring, "bookAll() of " + text, want, r -> r.bookAll());
+        CHECKS.refused(() -> Rings.busy(text), "bookAll() of " + text, want, r -> r.bookAll());
     }
 
     private static void takeBack() {

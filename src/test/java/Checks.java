@@ -1,13 +1,27 @@
+import java.util.function.Supplier;
 import java.util.function.ToIntFunction;
 
 /** Counts the answers that are not the ones due, and prints them under the name of what was tested. */
 final class Checks {
+    private final Document document = new Document();
     private String part = "";
     private int made = 0;
     private int wrong = 0;
 
     void begin(String name) {
         part = name;
+    }
+
+    /** Begins a test of a sentence of the document's 'Terms'. */
+    void terms(String words) {
+        begin("Terms: '" + words + "'");
+        holds("the document says so", document.says(Document.TERMS, words));
+    }
+
+    /** Begins a test of a sentence of a promise. */
+    void promise(int number, String words) {
+        begin("promise " + number + ": '" + words + "'");
+        holds("the document says so", document.says(number, words));
     }
 
     void due(String call, long got, long want) {
@@ -38,29 +52,36 @@ final class Checks {
         }
     }
 
-    /** A call that answers an error or NONE changes nothing. */
-    void refused(MachineRing ring, String call, int want, ToIntFunction<MachineRing> done) {
-        String before = Rings.picture(ring);
-        due(call, done.applyAsInt(ring), want);
-        holds(call + " changes nothing", before.equals(Rings.picture(ring)));
+    /** A call that answers an error or NONE changes nothing: not the history, the snapshot or the text either. */
+    void refused(Supplier<MachineRing> maker, String call, int want, ToIntFunction<MachineRing> done) {
+        due(call, done.applyAsInt(maker.get()), want);
+        for (int look = 0; look < Rings.LOOKS; look++) {
+            MachineRing ring = maker.get();
+            done.applyAsInt(ring);
+            holds(call + " changes nothing (look " + look + ")",
+                    Rings.look(maker.get(), look).equals(Rings.look(ring, look)));
+        }
     }
 
     void refused(String call, int want, ToIntFunction<MachineRing> done) {
-        refused(Rings.busy(), call, want, done);
+        refused(Rings::busy, call, want, done);
     }
 
-    /** An act records the state that was before it, and no other. */
-    void isAct(MachineRing ring, String call, int want, ToIntFunction<MachineRing> done) {
-        String before = Rings.picture(ring);
-        int states = ring.count(13);
-        due(call, done.applyAsInt(ring), want);
-        due("states behind " + call, ring.count(13), states + 1);
-        due("undo() behind " + call, ring.undo(), states);
-        holds(call + " is undone", before.equals(Rings.picture(ring)));
+    /** An act records the state that was before it, and no other: for a ring with room in its history. */
+    void isAct(Supplier<MachineRing> maker, String call, int want, ToIntFunction<MachineRing> done) {
+        for (int look = 0; look < Rings.LOOKS; look++) {
+            MachineRing ring = maker.get();
+            int states = ring.count(13);
+            due(call, done.applyAsInt(ring), want);
+            due("states behind " + call, ring.count(13), states + 1);
+            due("undo() behind " + call, ring.undo(), states);
+            holds(call + " is undone (look " + look + ")",
+                    Rings.look(maker.get(), look).equals(Rings.look(ring, look)));
+        }
     }
 
     void isAct(String call, int want, ToIntFunction<MachineRing> done) {
-        isAct(Rings.busy(), call, want, done);
+        isAct(Rings::busy, call, want, done);
     }
 
     private void tell(String text) {

@@ -92,14 +92,20 @@ public final class HistoryTests {
         ring.pass(1);
         CHECKS.due("restore() of the later one", ring.restore(), 60);
         CHECKS.due("farmer(2, 0)", ring.farmer(2, 0), 9);
-        CHECKS.refused("keep() changes nothing else", 1, r -> r.keep());
+        CHECKS.refused(HistoryTests::busyAndKept, "keep() changes nothing else", 1, r -> r.keep());
+    }
+
+    private static MachineRing busyAndKept() {
+        MachineRing ring = Rings.busy();
+        ring.keep();
+        return ring;
     }
 
     private static void restore() {
         CHECKS.begin("promise 18, restore");
-        CHECKS.refused(new MachineRing(), "restore() of none", Rings.NONE, r -> r.restore());
+        CHECKS.refused(MachineRing::new, "restore() of none", Rings.NONE, r -> r.restore());
         CHECKS.isAct("restore()", 1, r -> r.restore());
-        MachineRing ring = Rings.busy();
+        MachineRing ring = busyAndKept();
         String before = Rings.picture(ring);
         ring.undo();
         ring.undo();

@@ -43,9 +43,13 @@ final class Rings {
 
     /**
      * A ring on day 1 with something of everything: machine 0 broken by farmer 0 (10 hours), 4 hours of farmer 1
-     * on machine 2, bookings 2, 3 and 4 standing, a snapshot, a text, 3 states in the history.
+     * on machine 2, bookings 2, 3 and 4 standing, a text, 3 states in the history, a snapshot with the seed 0.
      */
     static MachineRing busy() {
+        return busy("0m3+1h1");
+    }
+
+    static MachineRing busy(String text) {
         MachineRing ring = new MachineRing();
         ring.buy(0, 0, 20);
         ring.buy(1, 1, 33);
@@ -61,15 +65,58 @@ final class Rings {
         ring.book(3, 3, 2, 3);
         ring.book(1, 2, 3, 12);
         ring.book(4, 0, 2, 5);
-        ring.setSeed(5);
         ring.keep();
-        write(ring, "0m3+1h1");
+        ring.setSeed(5);
+        write(ring, text);
         ring.pay(5, 1);
         ring.undo();
         return ring;
     }
 
-    /** What can be seen of a ring, in fewer than 200 calls: an object is used for 512. */
+    /** The same with a state more, of which there is no room for another one. */
+    static MachineRing busyWithFourStates() {
+        MachineRing ring = busy();
+        ring.pay(4, 44);
+        return ring;
+    }
+
+    /** The same with an empty history. */
+    static MachineRing undone() {
+        MachineRing ring = busy();
+        while (ring.count(13) > 0) {
+            ring.undo();
+        }
+        return ring;
+    }
+
+    /** Seven bookings in 60 signs, for six machines. */
+    static final String FULL_TEXT = "0m0+10h1,1m1+10h1,2m2+10h1,3m3+10h1,4m4+10h1,5m5+1h1,0m1+1h1";
+
+    /**
+     * A ring on day 1 in which all is full: six machines with 600 litres (n and n + 3 of the kind n), of which
+     * number 0 is broken by 12 hours of farmer 2, 30 bookings (1 to 30) of 12 hours on the next five days,
+     * 60 signs of text, 4 states, a snapshot without bookings.
+     */
+    static MachineRing full() {
+        MachineRing ring = new MachineRing();
+        for (int machine = 0; machine < 6; machine++) {
+            ring.buy(machine % 3, machine % 3, machine + 1);
+            ring.fill(machine, machine, 500);
+            ring.fill(machine, machine, 100);
+        }
+        ring.set(0, 10);
+        ring.book(2, 0, 1, 12);
+        ring.pass(1);
+        ring.fill(2, 0, 102);
+        ring.keep();
+        for (int n = 0; n < 30; n++) {
+            ring.book(n % 6, n % 6, 1 + n / 6, 12);
+        }
+        write(ring, FULL_TEXT);
+        return ring;
+    }
+
+    /** What can be seen of a ring, in at most 370 calls: an object is used for 512. */
     static String picture(MachineRing ring) {
         StringBuilder seen = new StringBuilder();
         for (int what = 0; what < 18; what++) {
@@ -80,7 +127,7 @@ final class Rings {
                 seen.append(ring.farmer(farmer, what)).append(' ');
             }
         }
-        for (int machine = 0; machine < 5; machine++) {
+        for (int machine = 0; machine < ring.count(2); machine++) {
             for (int what = 0; what < 8; what++) {
                 seen.append(ring.machine(machine, what)).append(' ');
             }
@@ -88,11 +135,30 @@ final class Rings {
                 seen.append(ring.hours(machine, farmer)).append(' ');
             }
         }
-        for (int booking = 0; booking < 7; booking++) {
-            for (int what = 0; what < 6; what++) {
+        for (int booking = 0; booking < 40; booking++) {
+            seen.append(ring.booking(booking, 0)).append(' ');
+            for (int what = 1; what < 6 && ring.booking(booking, 0) >= 0; what++) {
                 seen.append(ring.booking(booking, what)).append(' ');
             }
         }
         return seen.toString();
+    }
+
+    /** How many looks show all of a ring; each needs a ring of its own, as it changes what it looks at. */
+    static final int LOOKS = 7;
+
+    /** Look 0 shows the state, 1 to 4 the history, 5 the snapshot, 6 the text. */
+    static String look(MachineRing ring, int which) {
+        String answers = "";
+        if (which == 5) {
+            answers += ring.restore();
+        } else if (which == 6) {
+            answers += ring.bookAll();
+        } else {
+            for (int n = 0; n < which; n++) {
+                answers += ring.undo() + " ";
+            }
+        }
+        return answers + ": " + picture(ring);
     }
 }
