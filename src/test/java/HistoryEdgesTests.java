@@ -146,6 +146,7 @@ public final class HistoryEdgesTests {
         ring.restore();
         CHECKS.due("the text stays", ring.count(14), 4);
         everythingComesBack();
+        otherMachinesComeBack();
     }
 
     /** All that acts change at once, in one long row of them, comes back by restore() and by undo(). */
@@ -174,6 +175,21 @@ public final class HistoryEdgesTests {
         undone.restore();
         undone.undo();
         CHECKS.holds("undo() of restore() brings all back", stateOf(undone).equals(then));
+    }
+
+    /** A machine that is gone comes back as it was, although another one bears its number since then. */
+    private static void otherMachinesComeBack() {
+        MachineRing ring = new MachineRing();
+        ring.buy(0, 0, 1);
+        ring.buy(0, 0, 2);
+        ring.keep();
+        ring.undo();
+        CHECKS.due("buy(2, 2, 3)", ring.buy(2, 2, 3), 1);
+        CHECKS.dueRow("machine 1", what -> ring.machine(1, what), 2, 3, 0, 0, 0, 0, 0, 0);
+        ring.restore();
+        CHECKS.dueRow("machine 1, restored", what -> ring.machine(1, what), 0, 2, 0, 0, 0, 1, 0, 0);
+        ring.undo();
+        CHECKS.dueRow("machine 1, undone", what -> ring.machine(1, what), 2, 3, 0, 0, 0, 0, 0, 0);
     }
 
     // ---- promise 16

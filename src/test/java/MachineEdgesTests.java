@@ -234,6 +234,8 @@ public final class MachineEdgesTests {
         CHECKS.due("buy() behind undo() of both", ring.buy(1, 1, 8), 0);
         CHECKS.dueRow("its machine", what -> ring.machine(0, what), 1, 8, 0, 0, 0, 0, 0, 0);
 
+        anotherMachineOfTheNumber();
+
         CHECKS.promise(2, "kind: 0 to 2");
         CHECKS.isAct(MachineRing::new, "the kind 0", 0, r -> r.buy(0, 0, 1));
         CHECKS.isAct(MachineRing::new, "the kind 2", 0, r -> r.buy(2, 2, 1));
@@ -278,6 +280,36 @@ public final class MachineEdgesTests {
         CHECKS.refused("BAD_VALUE (rate) ahead of FULL", Rings.BAD_VALUE, r -> r.buy(0, 0, 0));
         CHECKS.refused("BAD_VALUE ahead of NOT_POSSIBLE", Rings.BAD_VALUE, r -> r.buy(0, 1, 100));
         CHECKS.refused("FULL ahead of NOT_POSSIBLE", Rings.FULL, r -> r.buy(1, 0, 1));
+    }
+
+    /** What the machine of a number was that is gone by restore() is not left to the next one. */
+    private static void anotherMachineOfTheNumber() {
+        CHECKS.promise(2, "without fuel");
+        MachineRing ring = new MachineRing();
+        ring.keep();
+        ring.buy(0, 0, 9);
+        ring.buy(0, 0, 9);
+        ring.set(0, 10);
+        ring.fill(0, 1, 500);
+        ring.book(1, 1, 1, 12);
+        ring.pass(1);
+        ring.mend(1);
+        ring.book(1, 1, 1, 12);
+        ring.book(1, 0, 1, 12);
+        ring.pass(1);
+        CHECKS.due("put off", ring.booking(2, 4), 1);
+        CHECKS.dueRow("machine 1", what -> ring.machine(1, what), 0, 9, 1, 12, 24, 1,
+                Float.floatToIntBits(296.0f), 1);
+        ring.restore();
+        ring.buy(0, 0, 1);
+        CHECKS.due("buy(2, 2, 8)", ring.buy(2, 2, 8), 1);
+        CHECKS.dueRow("machine 1", what -> ring.machine(1, what), 2, 8, 0, 0, 0, 0, 0, 0);
+        CHECKS.due("hours(1, 1)", ring.hours(1, 1), 0);
+        CHECKS.due("book()", ring.book(2, 0, 1, 1), 0);
+        CHECKS.due("not put off", ring.booking(0, 4), 0);
+        ring.restore();
+        ring.undo();
+        CHECKS.dueRow("machine 1", what -> ring.machine(1, what), 2, 8, 0, 0, 0, 0, 0, 0);
     }
 
     // ---- promise 3

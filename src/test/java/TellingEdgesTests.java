@@ -121,11 +121,11 @@ public final class TellingEdgesTests {
 
     private static void fuel() {
         CHECKS.promise(20, "6 for the bits of its fuel (Float.floatToIntBits)");
-        bitsOfFuel(2, 0);
-        bitsOfFuel(0, 1);
-        bitsOfFuel(1, 64);
-        bitsOfFuel(2, 255);
-        bitsOfFuel(2, 256);
+        for (int power = 1; power <= 256; power *= 2) {
+            bitsOfFuel(power % 3, power - 1);
+            bitsOfFuel(power % 3, power);
+            bitsOfFuel(power % 3, power + 1);
+        }
         bitsOfFuel(1, 500);
         leastFuel();
 
@@ -160,10 +160,19 @@ public final class TellingEdgesTests {
         ring.pass(1);
         CHECKS.dueFloat("a quarter", ring.fuel(0), 0.25f);
         CHECKS.due("bits of a quarter", ring.machine(0, 6), Float.floatToIntBits(0.25f));
+        ring.fill(0, 0, 1);
+        CHECKS.due("bits of 1.25", ring.machine(0, 6), Float.floatToIntBits(1.25f));
+        ring.undo();
         ring.fill(0, 0, 500);
         CHECKS.due("bits of 500.25", ring.machine(0, 6), Float.floatToIntBits(500.25f));
         ring.fill(0, 0, 99);
         CHECKS.due("bits of 599.25", ring.machine(0, 6), Float.floatToIntBits(599.25f));
+        MachineRing baler = new MachineRing();
+        baler.buy(1, 1, 1);
+        baler.fill(0, 0, 6);
+        baler.book(0, 0, 1, 1);
+        baler.pass(1);
+        CHECKS.due("bits of three quarters", baler.machine(0, 6), Float.floatToIntBits(0.75f));
         MachineRing empty = new MachineRing();
         empty.buy(0, 0, 1);
         empty.fill(0, 0, 17);
@@ -440,6 +449,18 @@ public final class TellingEdgesTests {
         full.undo();
         full.undo();
         CHECKS.due("but not behind undo()", full.count(6), 0);
+
+        CHECKS.promise(28, "15 for what mending cost so far, 16 for what fuel cost so far");
+        MachineRing costs = Rings.busy();
+        for (int n = 1; n <= 3; n++) {
+            CHECKS.holds("mend(0)", costs.mend(0) >= 0);
+            CHECKS.due("300 more", costs.count(15), 300 * n);
+            CHECKS.due("102 litres more", costs.count(16), 1200 + 204 * (n - 1));
+            costs.fill(5, 0, 102);
+            costs.book(5, 0, 4, 12);
+            costs.pass(4);
+            CHECKS.due("broken again", costs.machine(0, 2), 1);
+        }
 
         CHECKS.promise(28, "Returns the number; BAD_VALUE");
         CHECKS.due("count(17)", full.count(17), 0);

@@ -197,6 +197,14 @@ public final class TextEdgesTests {
         fault(six + "0m0+1", 59);
         fault(six + "0m0+1h", 60);
         fault(six + "0m0+1x", 59);
+        String seven = "0m0+1h1,0m0+1h1,0m0+1h1,0m0+1h1,0m0+1h1,0m0+1h1,0m0+1h1";
+        CHECKS.due("seven bookings in 55", bookAll(seven), 7);
+        fault(seven + ",", 56);
+        fault(seven + ",0", 57);
+        fault(seven + ",0m0", 59);
+        fault(seven + ",0m0+", 60);
+        fault(seven + ",0m0-", 59);
+        fault(seven + ",6m0+", 56);
         CHECKS.due("the 61st is not typed", bookAll(six + "0m0+1h1"), Rings.TEXT_FAULT - 60);
         CHECKS.due("nor does it spoil 60", Rings.bookText(withSixMachines(), Rings.FULL_TEXT + "x"), 7);
     }
